@@ -17,6 +17,7 @@ public final class StoreLog3 {
     private static final int LOG = 1;
     private static final int PAGE = 2;
     private static final int FIRST_SERIAL = 1;
+    private static final long WITHOUT_SIGN = 4294967295L;
 
     private static final int KIND_AT = 0;
     private static final int SERIAL_AT = 1;
@@ -149,7 +150,6 @@ public final class StoreLog3 {
         if (!finder.findCheckpoint(journal.disk)) {
             return BROKEN;
         }
-        dictionary.clear();
         finder.readPages(journal.disk, dictionary);
         finder.goOverRun(journal.disk, dictionary);
         journal.goOn(finder.firstPage(), finder.runEnd());
@@ -437,10 +437,15 @@ public final class StoreLog3 {
             }
         }
 
+        /** Goes past byteOf, as this is where a start spends most of its time. */
         private int sumOf(int sector) {
+            if (sector < 0 || sector >= size) {
+                return 0;
+            }
+            int from = sector * SECTOR_BYTES;
             int sum = sector + 1;
             for (int i = 0; i < SUM_AT; i++) {
-                int mixed = sum ^ byteOf(sector, i);
+                int mixed = sum ^ (bytes[from + i] & 255);
                 sum = (mixed << 11 | mixed >>> 21) * SUM_MULTIPLIER;
             }
             return sum;
@@ -578,7 +583,6 @@ public final class StoreLog3 {
             firstNeeded = firstPage;
             lastSector = runEnd;
             lastSerial = disk.serialOf(runEnd);
-            forgetMemory();
         }
 
         /** Answers the first key with a value that did not find room in this page. */
@@ -701,7 +705,7 @@ public final class StoreLog3 {
         }
 
         private static boolean isLater(int serial, int than) {
-            return Integer.toUnsignedLong(serial) > Integer.toUnsignedLong(than);
+            return (serial & WITHOUT_SIGN) > (than & WITHOUT_SIGN);
         }
 
         private static boolean isLog(Sectors disk, int sector) {
