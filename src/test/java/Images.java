@@ -50,12 +50,15 @@ final class Images {
         return image;
     }
 
-    /** Pokes an image into a sector. */
+    /** Pokes an image into a sector that is as at first (asking for no byte, as calls are counted). */
     static void lay(StoreLog3 store, int sector, int[] image) {
+        layOver(store, sector, sector == 0 ? page(0, 1, 0, 1) : new int[32], image);
+    }
+
+    static void layOver(StoreLog3 store, int sector, int[] old, int[] image) {
         for (int i = 0; i < 32; i++) {
-            int mask = store.at(sector, i) ^ image[i];
-            if (mask != 0) {
-                store.poke(sector, i, mask);
+            if (old[i] != image[i]) {
+                store.poke(sector, i, old[i] ^ image[i]);
             }
         }
     }
