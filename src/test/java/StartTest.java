@@ -478,12 +478,21 @@ public final class StartTest {
         }
         x.checkpoint();
         x.sync();
+        Scenes.commitOne(x, 1, 99);
         x.checkpoint();
+        x.sync();
+        // Without this the older logs would lead round to the checkpoint itself, and to the same state.
+        x.poke(8, 9, 4);
+        x.cut(0, 0);
+        due("start", x.start(), 0);
+        due("older logs behind it do not count", x.get(1), 99);
+        dueEnd("no log", x, 18, 1, 1);
+        Scenes.commitOne(x, 1, 100);
         x.sync();
         x.cut(0, 0);
         due("start", x.start(), 0);
-        due("older logs behind it do not count", x.get(1), 27);
-        dueEnd("no log", x, 17, 0, 1);
+        due("nor those behind a newer one", x.get(1), 100);
+        dueEnd("one log", x, 19, 2, 2);
 
         StoreLog3 y = new StoreLog3(16);
         for (int n = 0; n < 6; n++) {
