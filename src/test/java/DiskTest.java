@@ -12,6 +12,8 @@ public final class DiskTest {
         sectors();
         highestByteFirst();
         sum();
+        sumByBits();
+        kindAndSerial();
         logBytes();
         nothingWhereThereIsNone();
         pageBytes();
@@ -154,6 +156,59 @@ public final class DiskTest {
             StoreLog3 z = new StoreLog3(64);
             Images.lay(z, sector, Images.sealed((sector + 1) % 64, image));
             due("the sum of another sector", z.sound(sector), false);
+        }
+    }
+
+    private static void sumByBits() {
+        checks.about(13, "s is the sector's number and 1 more at first; for each byte b it becomes (s ^ b), turned up by "
+                + "11 bits (those that leave it at the top come in below), times 2246822519 (all in 32 bits).");
+        int[] first = {190, 205, 110, 251};
+        StoreLog3 x = new StoreLog3(16);
+        for (int i = 0; i < 4; i++) {
+            due("sector 0 at first, byte " + (28 + i), x.at(0, 28 + i), first[i]);
+        }
+        int[] sectors = {0, 1, 31, 62, 63};
+        for (int sector : sectors) {
+            for (int b = 0; b < 256; b += 51) {
+                StoreLog3 y = new StoreLog3(64);
+                long s = sector + 1;
+                for (int i = 0; i < 28; i++) {
+                    int due = (b + 37 * i) % 256;
+                    int old = sector == 0 ? y.at(0, i) : 0;
+                    y.poke(sector, i, old ^ due);
+                    s = turnedByBits(s ^ due) * 2246822519L & 4294967295L;
+                }
+                for (int i = 28; i < 32; i++) {
+                    due("not yet", y.sound(sector), false);
+                    int old = sector == 0 ? first[i - 28] : 0;
+                    y.poke(sector, i, old ^ (int) (s >> 8 * (31 - i) & 255));
+                }
+                due("the sum in sector " + sector, y.sound(sector), true);
+            }
+        }
+    }
+
+    private static long turnedByBits(long number) {
+        long turned = number;
+        for (int n = 0; n < 11; n++) {
+            long top = turned >> 31 & 1;
+            turned = (turned << 1 & 4294967295L) + top;
+        }
+        return turned;
+    }
+
+    private static void kindAndSerial() {
+        checks.about(8, "A SECTOR THAT TELLS something: byte 0 is 1 for a LOG, 2 for a PAGE; bytes 1 .. 4 its SERIAL.");
+        StoreLog3 x = new StoreLog3(16);
+        Scenes.commitOne(x, 1, 1);
+        due("pages", x.checkpoint(), 1);
+        due("log and page", x.sync(), 2);
+        int[] kinds = {2, 1, 2, 0};
+        int[] serials = {1, 2, 3, 0};
+        for (int sector = 0; sector < 4; sector++) {
+            due("kind of sector " + sector, x.at(sector, 0), kinds[sector]);
+            due("its serial's high bytes", x.at(sector, 1) + x.at(sector, 2) + x.at(sector, 3), 0);
+            due("its serial", x.at(sector, 4), serials[sector]);
         }
     }
 
